@@ -389,6 +389,11 @@ public final class PromisesTest {
         Check.due(1, "8: the SEQ is free again", () -> x.apply(0));
         Check.due(0, "8: VALUE before", () -> x.value(0, 0, 1));
         Check.due(true, "8: it can take", () -> x.take(1, 0));
+        for (int seq = 3; seq <= 40; seq++) {
+            commit(x, 1, 3, seq, seq % 16, seq);
+        }
+        x.clear(1);
+        dueFresh("8: clear of a long run", x, 1);
     }
 
     private static void promise9Value() {
@@ -490,8 +495,10 @@ public final class PromisesTest {
     private static void promise14Same() {
         VersionFold x = new VersionFold(3);
         commit(x, 0, 0, 1, 0, 0);
-        Check.due(false, "14: INDEX differs", () -> x.same(0, 1));
         applyEmpty(x, 1, 1);
+        applyEmpty(x, 2, 2);
+        Check.due(false, "14: INDEX alone differs", () -> x.same(1, 2));
+        Check.due(false, "14: the other way round", () -> x.same(2, 1));
         commit(x, 1, 0, 1, 0, 0);
         applyEmpty(x, 0, 1);
         Check.due(false, "14: since differs", () -> x.same(0, 1));
