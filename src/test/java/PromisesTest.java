@@ -1,10 +1,5 @@
 /** Each promise of DOC.md by its number: ordinary inputs, the edges that are named, wrong inputs. */
 public final class PromisesTest {
-    private static final int MAX = Integer.MAX_VALUE;
-    private static final int MIN = Integer.MIN_VALUE;
-    private static final int[] NO_FOLDS = {-1, 4, 5, MIN, MAX};
-    private static final int[] NOT_0_TO_15 = {-1, 16, 31, 32, MIN, MAX};
-
     private PromisesTest() {
     }
 
@@ -75,7 +70,8 @@ public final class PromisesTest {
 
     private static void promise1VersionsCountAsTheNearest() {
         int[][] givenAndCounted = {
-            {MIN, 1}, {-4, 1}, {0, 1}, {1, 1}, {2, 2}, {7, 7}, {15, 15}, {16, 16}, {17, 16}, {MAX, 16}
+            {Steps.MIN, 1}, {-4, 1}, {0, 1}, {1, 1}, {2, 2},
+            {7, 7}, {15, 15}, {16, 16}, {17, 16}, {Steps.MAX, 16}
         };
         for (int[] pair : givenAndCounted) {
             VersionFold x = new VersionFold(pair[0]);
@@ -83,7 +79,7 @@ public final class PromisesTest {
             String label = "1: versions " + pair[0];
             Check.due(0, label + " since", () -> x.since(0, -v));
             Check.due(Check.BAD_ARGUMENT, label + " since", () -> x.since(0, -v - 1));
-            applyEmpty(x, 0, 40);
+            Steps.applyEmpty(x, 0, 40);
             Check.due(40 - v, label + " HORIZON", () -> x.look(0, 1));
             Check.due(0, label + " since", () -> x.since(0, 40 - v));
             Check.due(Check.BAD_ARGUMENT, label + " since", () -> x.since(0, 39 - v));
@@ -94,15 +90,15 @@ public final class PromisesTest {
         VersionFold x = new VersionFold(4);
         Check.due(true, "2: reads", () -> x.reads(3));
         Check.due(true, "2: writes", () -> x.writes(4, 9));
-        Check.due(true, "2: draft", () -> x.draft(15, MAX, 0));
+        Check.due(true, "2: draft", () -> x.draft(15, Steps.MAX, 0));
         Check.due(0, "2: no KEYS read", () -> x.look(0, 6));
         Check.due(0, "2: no KEYS written", () -> x.look(0, 7));
         Check.due(1, "2: apply", () -> x.apply(0));
         Check.due(0, "2: the dropped write", () -> x.value(0, 4, 1));
-        Check.due(MAX, "2: SEQ", () -> x.seq(0, 15));
+        Check.due(Steps.MAX, "2: SEQ", () -> x.seq(0, 15));
         Check.due(1, "2: VERDICT", () -> x.verdict(0, 15));
         Check.due(true, "2: the least draft", () -> x.draft(0, 1, 0));
-        Check.due(true, "2: SNAPSHOT above all", () -> x.draft(0, 1, MAX));
+        Check.due(true, "2: SNAPSHOT above all", () -> x.draft(0, 1, Steps.MAX));
         Check.due(-1, "2: test", () -> x.test(0));
     }
 
@@ -111,14 +107,14 @@ public final class PromisesTest {
         x.draft(5, 7, 0);
         x.reads(1);
         x.writes(2, 3);
-        for (int none : NOT_0_TO_15) {
+        for (int none : Steps.NOT_0_TO_15) {
             Check.due(false, "2: draft of session " + none, () -> x.draft(none, 9, 1));
         }
         Check.due(false, "2: draft of seq 0", () -> x.draft(1, 0, 1));
         Check.due(false, "2: draft of seq -1", () -> x.draft(1, -1, 1));
-        Check.due(false, "2: draft of the least seq", () -> x.draft(1, MIN, 1));
+        Check.due(false, "2: draft of the least seq", () -> x.draft(1, Steps.MIN, 1));
         Check.due(false, "2: draft of snapshot -1", () -> x.draft(1, 9, -1));
-        Check.due(false, "2: draft of the least snapshot", () -> x.draft(1, 9, MIN));
+        Check.due(false, "2: draft of the least snapshot", () -> x.draft(1, 9, Steps.MIN));
         Check.due(2, "2: READ SET stays", () -> x.look(0, 6));
         Check.due(4, "2: WRITE SET stays", () -> x.look(0, 7));
         Check.due(1, "2: apply", () -> x.apply(0));
@@ -132,7 +128,7 @@ public final class PromisesTest {
         Check.due(true, "3: reads", () -> x.reads(15));
         Check.due(true, "3: reads again", () -> x.reads(15));
         Check.due(0x8001, "3: READ SET", () -> x.look(0, 6));
-        for (int none : NOT_0_TO_15) {
+        for (int none : Steps.NOT_0_TO_15) {
             Check.due(false, "3: reads " + none, () -> x.reads(none));
         }
         Check.due(0x8001, "3: READ SET stays", () -> x.look(3, 6));
@@ -141,17 +137,17 @@ public final class PromisesTest {
 
     private static void promise4Writes() {
         VersionFold x = new VersionFold(4);
-        Check.due(true, "4: writes", () -> x.writes(0, MIN));
+        Check.due(true, "4: writes", () -> x.writes(0, Steps.MIN));
         Check.due(true, "4: writes", () -> x.writes(15, 5));
         Check.due(true, "4: writes again", () -> x.writes(15, 6));
         Check.due(0x8001, "4: WRITE SET", () -> x.look(0, 7));
-        for (int none : NOT_0_TO_15) {
+        for (int none : Steps.NOT_0_TO_15) {
             Check.due(false, "4: writes " + none, () -> x.writes(none, 77));
         }
         Check.due(0x8001, "4: WRITE SET stays", () -> x.look(2, 7));
         Check.due(0, "4: READ SET stays", () -> x.look(2, 6));
         Check.due(1, "4: apply", () -> x.apply(1));
-        Check.due(MIN, "4: VALUE", () -> x.value(1, 0, 1));
+        Check.due(Steps.MIN, "4: VALUE", () -> x.value(1, 0, 1));
         Check.due(6, "4: the later VALUE", () -> x.value(1, 15, 1));
         Check.due(0, "4: another KEY", () -> x.value(1, 14, 1));
     }
@@ -176,7 +172,7 @@ public final class PromisesTest {
 
     private static void promise5ApplyOfSeqNotAbove() {
         VersionFold x = new VersionFold(1);
-        commit(x, 0, 2, 5, 0, 1);
+        Steps.commit(x, 0, 2, 5, 0, 1);
         for (int seq : new int[] {5, 4, 1}) {
             x.draft(2, seq, 0);
             x.reads(0);
@@ -200,7 +196,7 @@ public final class PromisesTest {
         x.writes(0, 1);
         Check.due(-1, "5: SNAPSHOT above INDEX", () -> x.apply(0));
         dueFresh("5: NONE changes nothing", x, 0);
-        commit(x, 0, 0, 9, 0, 1);
+        Steps.commit(x, 0, 0, 9, 0, 1);
         x.draft(0, 1, 2);
         Check.due(-1, "5: NONE though SEQ is not above", () -> x.apply(0));
         Check.due(1, "5: INDEX stays", () -> x.look(0, 0));
@@ -213,7 +209,7 @@ public final class PromisesTest {
         for (int v = 1; v <= 16; v++) {
             VersionFold x = new VersionFold(v);
             int old = 20 - v - 1;
-            applyEmpty(x, 0, 20);
+            Steps.applyEmpty(x, 0, 20);
             x.draft(1, 1, old);
             x.writes(3, 7);
             Check.due(2, "5: SNAPSHOT too old, V " + v, () -> x.apply(0));
@@ -232,21 +228,21 @@ public final class PromisesTest {
 
     private static void promise5ApplyOfStaleReads() {
         VersionFold x = new VersionFold(16);
-        commit(x, 0, 0, 1, 4, 1);
-        commit(x, 0, 0, 2, 5, 1);
-        Check.due(2, "5: read key written above SNAPSHOT", () -> applyRead(x, 0, 1, 4));
-        Check.due(1, "5: written at the SNAPSHOT", () -> applyRead(x, 1, 2, 4));
-        Check.due(2, "5: written one above SNAPSHOT", () -> applyRead(x, 1, 3, 5));
-        Check.due(1, "5: never written", () -> applyRead(x, 0, 4, 6));
+        Steps.commit(x, 0, 0, 1, 4, 1);
+        Steps.commit(x, 0, 0, 2, 5, 1);
+        Check.due(2, "5: read key written above SNAPSHOT", () -> Steps.applyRead(x, 0, 1, 4));
+        Check.due(1, "5: written at the SNAPSHOT", () -> Steps.applyRead(x, 1, 2, 4));
+        Check.due(2, "5: written one above SNAPSHOT", () -> Steps.applyRead(x, 1, 3, 5));
+        Check.due(1, "5: never written", () -> Steps.applyRead(x, 0, 4, 6));
         x.draft(2, 1, 0);
         x.reads(5);
         x.writes(6, 1);
         Check.due(2, "5: aborted writer", () -> x.apply(0));
-        Check.due(1, "5: an aborted write makes no conflict", () -> applyRead(x, 0, 5, 6));
+        Check.due(1, "5: an aborted write makes no conflict", () -> Steps.applyRead(x, 0, 5, 6));
         x.draft(0, 2, 0);
         x.writes(7, 1);
         Check.due(0, "5: writer with old SEQ", () -> x.apply(0));
-        Check.due(1, "5: its write makes no conflict", () -> applyRead(x, 0, 6, 7));
+        Check.due(1, "5: its write makes no conflict", () -> Steps.applyRead(x, 0, 6, 7));
         x.draft(3, 1, 0);
         x.writes(4, 2);
         x.writes(5, 2);
@@ -256,7 +252,7 @@ public final class PromisesTest {
     /** Beyond 512 calls answers are free: this holds the program to the limit all the same. */
     private static void promise5ApplyAtTheLastIndex() {
         VersionFold x = new VersionFold(3);
-        applyEmpty(x, 0, 999999);
+        Steps.applyEmpty(x, 0, 999999);
         x.draft(0, 1, 999999);
         x.writes(0, 5);
         Check.due(1, "5: the last INDEX", () -> x.apply(0));
@@ -284,7 +280,7 @@ public final class PromisesTest {
         Check.due(2, "6: stale read", () -> x.test(0));
         x.draft(0, 2, 2);
         Check.due(-1, "6: SNAPSHOT above INDEX", () -> x.test(0));
-        applyEmpty(x, 0, 2);
+        Steps.applyEmpty(x, 0, 2);
         x.draft(0, 2, 0);
         Check.due(2, "6: old SNAPSHOT", () -> x.test(0));
         x.draft(0, 2, 1);
@@ -295,13 +291,13 @@ public final class PromisesTest {
 
     private static void promise7Take() {
         VersionFold x = new VersionFold(3);
-        commit(x, 0, 1, 4, 2, 20);
+        Steps.commit(x, 0, 1, 4, 2, 20);
         x.draft(2, 6, 0);
         x.reads(2);
         x.apply(0);
         x.apply(0);
-        commit(x, 0, 1, 5, 3, 30);
-        commit(x, 1, 7, 7, 9, 90);
+        Steps.commit(x, 0, 1, 5, 3, 30);
+        Steps.commit(x, 1, 7, 7, 9, 90);
         Check.due(true, "7: take", () -> x.take(0, 1));
         int[] looks = {4, 4, 2, 1, 1, 50};
         for (int which = 0; which < looks.length; which++) {
@@ -324,8 +320,8 @@ public final class PromisesTest {
 
     private static void promise7TakeRefused() {
         VersionFold x = new VersionFold(3);
-        commit(x, 0, 0, 1, 0, 1);
-        commit(x, 1, 0, 1, 0, 2);
+        Steps.commit(x, 0, 0, 1, 0, 1);
+        Steps.commit(x, 1, 0, 1, 0, 2);
         Check.due(false, "7: INDEX is the same", () -> x.take(0, 1));
         Check.due(false, "7: INDEX is below", () -> x.take(2, 1));
         Check.due(false, "7: itself", () -> x.take(1, 1));
@@ -338,7 +334,7 @@ public final class PromisesTest {
     private static void promise7TakenFoldGoesOn() {
         VersionFold x = new VersionFold(3);
         for (int i = 1; i <= 5; i++) {
-            commit(x, 0, 0, i, i, i * 10);
+            Steps.commit(x, 0, 0, i, i, i * 10);
         }
         x.take(0, 3);
         Check.due(0x38, "7: WRITE SETS are taken over", () -> x.since(3, 2));
@@ -359,7 +355,7 @@ public final class PromisesTest {
             Check.due(horizon == 5 ? 10 : 77, "7: VALUE at HORIZON", () -> x.value(3, 1, horizon));
             Check.due(77, "7: VALUE", () -> x.value(3, 1, now));
             Check.due(Check.BAD_ARGUMENT, "7: VALUE", () -> x.value(3, 5, horizon - 1));
-            applyEmpty(x, 3, 1);
+            Steps.applyEmpty(x, 3, 1);
         }
         Check.due(5, "7: a stays", () -> x.look(0, 0));
         Check.due(10, "7: a stays", () -> x.value(0, 1, 5));
@@ -368,12 +364,12 @@ public final class PromisesTest {
     private static void promise8Clear() {
         VersionFold x = new VersionFold(2);
         for (int fold = 0; fold < 2; fold++) {
-            commit(x, fold, 3, 1, 0, 5);
+            Steps.commit(x, fold, 3, 1, 0, 5);
             x.apply(fold);
             x.draft(4, 1, 0);
             x.reads(0);
             x.apply(fold);
-            commit(x, fold, 3, 2, 15, 8);
+            Steps.commit(x, fold, 3, 2, 15, 8);
         }
         x.draft(3, 1, 0);
         x.reads(2);
@@ -390,7 +386,7 @@ public final class PromisesTest {
         Check.due(0, "8: VALUE before", () -> x.value(0, 0, 1));
         Check.due(true, "8: it can take", () -> x.take(1, 0));
         for (int seq = 3; seq <= 40; seq++) {
-            commit(x, 1, 3, seq, seq % 16, seq);
+            Steps.commit(x, 1, 3, seq, seq % 16, seq);
         }
         x.clear(1);
         dueFresh("8: clear of a long run", x, 1);
@@ -398,18 +394,18 @@ public final class PromisesTest {
 
     private static void promise9Value() {
         VersionFold x = new VersionFold(2);
-        commit(x, 0, 0, 1, 7, 70);
+        Steps.commit(x, 0, 0, 1, 7, 70);
         Check.due(0, "9: before", () -> x.value(0, 7, 0));
         Check.due(70, "9: at it", () -> x.value(0, 7, 1));
-        for (int none : NOT_0_TO_15) {
+        for (int none : Steps.NOT_0_TO_15) {
             Check.due(Check.BAD_ARGUMENT, "9: key " + none, () -> x.value(0, none, 1));
         }
-        for (int none : new int[] {-1, 2, 17, 18, MIN, MAX}) {
+        for (int none : new int[] {-1, 2, 17, 18, Steps.MIN, Steps.MAX}) {
             Check.due(Check.BAD_ARGUMENT, "9: index " + none, () -> x.value(0, 7, none));
         }
-        applyEmpty(x, 0, 1);
+        Steps.applyEmpty(x, 0, 1);
         Check.due(0, "9: INDEX - V is 0", () -> x.value(0, 7, 0));
-        applyEmpty(x, 0, 1);
+        Steps.applyEmpty(x, 0, 1);
         Check.due(Check.BAD_ARGUMENT, "9: INDEX - V is 1", () -> x.value(0, 7, 0));
         Check.due(70, "9: at HORIZON", () -> x.value(0, 7, 1));
     }
@@ -418,7 +414,7 @@ public final class PromisesTest {
         for (int v = 1; v <= 16; v++) {
             VersionFold x = new VersionFold(v);
             for (int index = 1; index <= 60; index++) {
-                commit(x, 0, 0, index, index % 16, index * 100);
+                Steps.commit(x, 0, 0, index, index % 16, index * 100);
             }
             for (int index = 60 - v; index <= 60; index++) {
                 int at = index;
@@ -435,91 +431,91 @@ public final class PromisesTest {
 
     private static void promises10And11SeqAndVerdict() {
         VersionFold x = new VersionFold(2);
-        commit(x, 2, 0, 3, 0, 1);
-        commit(x, 2, 15, MAX, 1, 1);
+        Steps.commit(x, 2, 0, 3, 0, 1);
+        Steps.commit(x, 2, 15, Steps.MAX, 1, 1);
         x.draft(0, 4, 0);
         x.reads(0);
         x.apply(2);
         Check.due(4, "10: SEQ", () -> x.seq(2, 0));
         Check.due(2, "11: VERDICT", () -> x.verdict(2, 0));
-        Check.due(MAX, "10: SEQ", () -> x.seq(2, 15));
+        Check.due(Steps.MAX, "10: SEQ", () -> x.seq(2, 15));
         Check.due(1, "11: VERDICT", () -> x.verdict(2, 15));
         Check.due(0, "10: no SEQ", () -> x.seq(2, 7));
         Check.due(0, "11: no VERDICT", () -> x.verdict(2, 7));
         Check.due(0, "10: another fold", () -> x.seq(1, 0));
         Check.due(0, "11: another fold", () -> x.verdict(1, 0));
-        for (int none : NOT_0_TO_15) {
+        for (int none : Steps.NOT_0_TO_15) {
             Check.due(Check.BAD_ARGUMENT, "10: seq of " + none, () -> x.seq(2, none));
             Check.due(Check.BAD_ARGUMENT, "11: verdict of " + none, () -> x.verdict(2, none));
         }
-        commit(x, 2, 0, 5, 0, 1);
+        Steps.commit(x, 2, 0, 5, 0, 1);
         Check.due(5, "10: the next SEQ", () -> x.seq(2, 0));
         Check.due(1, "11: the next VERDICT", () -> x.verdict(2, 0));
     }
 
     private static void promise12Written() {
         VersionFold x = new VersionFold(3);
-        commit(x, 0, 0, 1, 6, 5);
+        Steps.commit(x, 0, 0, 1, 6, 5);
         Check.due(1, "12: written", () -> x.written(0, 6));
         Check.due(-1, "12: another key", () -> x.written(0, 7));
-        commit(x, 0, 0, 2, 6, 5);
+        Steps.commit(x, 0, 0, 2, 6, 5);
         Check.due(2, "12: the same VALUE again", () -> x.written(0, 6));
-        applyEmpty(x, 0, 3);
+        Steps.applyEmpty(x, 0, 3);
         Check.due(2, "12: at HORIZON", () -> x.written(0, 6));
-        applyEmpty(x, 0, 1);
+        Steps.applyEmpty(x, 0, 1);
         Check.due(-1, "12: below HORIZON", () -> x.written(0, 6));
         Check.due(5, "12: its VALUE stays", () -> x.value(0, 6, 6));
-        for (int none : NOT_0_TO_15) {
+        for (int none : Steps.NOT_0_TO_15) {
             Check.due(Check.BAD_ARGUMENT, "12: key " + none, () -> x.written(0, none));
         }
     }
 
     private static void promise13Since() {
         VersionFold x = new VersionFold(3);
-        commit(x, 0, 0, 1, 0, 5);
-        commit(x, 0, 0, 2, 15, 5);
-        commit(x, 0, 0, 3, 0, 6);
+        Steps.commit(x, 0, 0, 1, 0, 5);
+        Steps.commit(x, 0, 0, 2, 15, 5);
+        Steps.commit(x, 0, 0, 3, 0, 6);
         Check.due(0x8001, "13: since the first", () -> x.since(0, 0));
         Check.due(0x8001, "13: since 1", () -> x.since(0, 1));
         Check.due(1, "13: since 2", () -> x.since(0, 2));
         Check.due(0, "13: since INDEX", () -> x.since(0, 3));
-        for (int none : new int[] {-1, 4, MIN, MAX}) {
+        for (int none : new int[] {-1, 4, Steps.MIN, Steps.MAX}) {
             Check.due(Check.BAD_ARGUMENT, "13: since " + none, () -> x.since(0, none));
         }
         VersionFold y = new VersionFold(3);
-        commit(y, 0, 0, 1, 4, 5);
+        Steps.commit(y, 0, 0, 1, 4, 5);
         Check.due(0x10, "13: since below 0", () -> y.since(0, -2));
         Check.due(Check.BAD_ARGUMENT, "13: since below INDEX - V", () -> y.since(0, -3));
     }
 
     private static void promise14Same() {
         VersionFold x = new VersionFold(3);
-        commit(x, 0, 0, 1, 0, 0);
-        applyEmpty(x, 1, 1);
-        applyEmpty(x, 2, 2);
+        Steps.commit(x, 0, 0, 1, 0, 0);
+        Steps.applyEmpty(x, 1, 1);
+        Steps.applyEmpty(x, 2, 2);
         Check.due(false, "14: INDEX alone differs", () -> x.same(1, 2));
         Check.due(false, "14: the other way round", () -> x.same(2, 1));
-        commit(x, 1, 0, 1, 0, 0);
-        applyEmpty(x, 0, 1);
+        Steps.commit(x, 1, 0, 1, 0, 0);
+        Steps.applyEmpty(x, 0, 1);
         Check.due(false, "14: since differs", () -> x.same(0, 1));
         Check.due(false, "14: the other way round", () -> x.same(1, 0));
         Check.due(true, "14: itself", () -> x.same(0, 0));
 
         VersionFold y = new VersionFold(3);
-        commit(y, 0, 0, 1, 0, 5);
-        commit(y, 1, 0, 1, 0, 6);
+        Steps.commit(y, 0, 0, 1, 0, 5);
+        Steps.commit(y, 1, 0, 1, 0, 6);
         Check.due(false, "14: VALUES differ", () -> y.same(0, 1));
-        commit(y, 2, 0, 2, 0, 5);
+        Steps.commit(y, 2, 0, 2, 0, 5);
         Check.due(false, "14: SEQ differs", () -> y.same(0, 2));
-        commit(y, 3, 1, 1, 0, 5);
+        Steps.commit(y, 3, 1, 1, 0, 5);
         Check.due(false, "14: SESSIONS differ", () -> y.same(0, 3));
         promise14VerdictsAlone();
     }
 
     private static void promise14VerdictsAlone() {
         VersionFold x = new VersionFold(3);
-        commit(x, 0, 0, 1, 0, 5);
-        commit(x, 1, 0, 1, 0, 5);
+        Steps.commit(x, 0, 0, 1, 0, 5);
+        Steps.commit(x, 1, 0, 1, 0, 5);
         x.draft(1, 1, 0);
         x.reads(0);
         Check.due(2, "14: aborted", () -> x.apply(0));
@@ -531,15 +527,15 @@ public final class PromisesTest {
 
     private static void promise14SameForgetsOldWrites() {
         VersionFold x = new VersionFold(2);
-        commit(x, 0, 0, 1, 0, 0);
+        Steps.commit(x, 0, 0, 1, 0, 0);
         x.draft(0, 1, 0);
         x.apply(1);
         Check.due(false, "14: a write alone", () -> x.same(0, 1));
-        applyEmpty(x, 0, 1);
-        applyEmpty(x, 1, 1);
+        Steps.applyEmpty(x, 0, 1);
+        Steps.applyEmpty(x, 1, 1);
         Check.due(false, "14: it can still be asked for", () -> x.same(0, 1));
-        applyEmpty(x, 0, 1);
-        applyEmpty(x, 1, 1);
+        Steps.applyEmpty(x, 0, 1);
+        Steps.applyEmpty(x, 1, 1);
         Check.due(1, "14: it is written still", () -> x.written(0, 0));
         Check.due(true, "14: it can't be asked for by since", () -> x.same(0, 1));
         Check.due(true, "14: the other way round", () -> x.same(1, 0));
@@ -550,8 +546,8 @@ public final class PromisesTest {
     private static void promise15Look() {
         VersionFold x = new VersionFold(1);
         x.draft(0, 1, 0);
-        x.writes(0, MAX);
-        x.writes(1, MAX);
+        x.writes(0, Steps.MAX);
+        x.writes(1, Steps.MAX);
         x.writes(2, 3);
         x.apply(0);
         Check.due(1, "15: the sum wraps", () -> x.look(0, 5));
@@ -564,12 +560,12 @@ public final class PromisesTest {
         x.writes(0, -5);
         x.writes(6, 1);
         x.apply(0);
-        int[] looks = {5, 4, 2, 1, 2, MIN - 2, 0x20, 0x41};
+        int[] looks = {5, 4, 2, 1, 2, Steps.MIN - 2, 0x20, 0x41};
         for (int which = 0; which < looks.length; which++) {
             int w = which;
             Check.due(looks[w], "15: look " + w, () -> x.look(0, w));
         }
-        for (int none : new int[] {-1, 8, 9, MIN, MAX}) {
+        for (int none : new int[] {-1, 8, 9, Steps.MIN, Steps.MAX}) {
             Check.due(-1, "15: look " + none, () -> x.look(0, none));
         }
         Check.due(0, "15: another fold", () -> x.look(1, 0));
@@ -579,7 +575,7 @@ public final class PromisesTest {
 
     private static void noSuchFoldComesFirst() {
         VersionFold x = new VersionFold(4);
-        for (int none : NO_FOLDS) {
+        for (int none : Steps.NO_FOLDS) {
             Check.due(Check.NO_FOLD, "5: apply " + none, () -> x.apply(none));
             Check.due(Check.NO_FOLD, "6: test " + none, () -> x.test(none));
             Check.due(Check.NO_FOLD, "7: take from " + none, () -> x.take(none, 0));
@@ -604,27 +600,5 @@ public final class PromisesTest {
             Check.due(Check.NO_FOLD, "15: look, all wrong", () -> x.look(none, 8));
         }
         dueFresh("what throws changes nothing", x, 0);
-    }
-
-    /** Makes a REQUEST with the newest SNAPSHOT that writes one KEY, and applies it. */
-    private static void commit(VersionFold x, int fold, int session, int seq, int key, int value) {
-        x.draft(session, seq, x.look(fold, 0));
-        x.writes(key, value);
-        x.apply(fold);
-    }
-
-    /** Makes the INDEX some more: the first REQUEST of SESSION 14 commits, the rest are old. */
-    private static void applyEmpty(VersionFold x, int fold, int times) {
-        x.draft(14, 1, 0);
-        for (int i = 0; i < times; i++) {
-            x.apply(fold);
-        }
-    }
-
-    /** What FOLD 0 makes of a REQUEST of SESSION 1 that only reads one KEY. */
-    private static int applyRead(VersionFold x, int snapshot, int seq, int key) {
-        x.draft(1, seq, snapshot);
-        x.reads(key);
-        return x.apply(0);
     }
 }
