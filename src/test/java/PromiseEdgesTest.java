@@ -33,6 +33,7 @@ public final class PromiseEdgesTest {
         promise14OneDifference();
         promise14AlikeAllTheSame();
         promise14SinceAtTheOldest();
+        promise14SinceBelowHorizon();
         promise15EveryWhich();
         promise15TheSumWraps();
         allOf512Calls();
@@ -119,9 +120,9 @@ public final class PromiseEdgesTest {
             int value = times;
             Check.due(true, "3: reads 15", () -> x.reads(15));
             Check.due(true, "4: writes 15", () -> x.writes(15, value));
+            Check.due(0x8000, "3: READ SET", () -> x.look(0, 6));
+            Check.due(0x8000, "4: WRITE SET", () -> x.look(0, 7));
         }
-        Check.due(0x8000, "3: READ SET", () -> x.look(0, 6));
-        Check.due(0x8000, "4: WRITE SET", () -> x.look(0, 7));
         Check.due(1, "4: apply", () -> x.apply(0));
         Check.due(2, "4: the last VALUE", () -> x.value(0, 15, 1));
     }
@@ -277,7 +278,9 @@ public final class PromiseEdgesTest {
             Steps.commit(x, 0, i % 16, i, i % 16, i);
         }
         Steps.applyRead(x, 0, 50, 0);
+        x.apply(0);
         x.take(0, 3);
+        Check.due(1, "8: one was neither before", () -> x.look(3, 4));
         x.clear(3);
         for (int w = 0; w < 6; w++) {
             int which = w;
@@ -291,7 +294,7 @@ public final class PromiseEdgesTest {
             Check.due(0, "8: VERDICT", () -> x.verdict(3, n));
         }
         Check.due(0, "8: since", () -> x.since(3, -2));
-        Check.due(21, "8: others stay", () -> x.look(0, 0));
+        Check.due(22, "8: others stay", () -> x.look(0, 0));
         Check.due(Check.BAD_ARGUMENT, "8: no later INDEX", () -> x.value(3, 0, 1));
     }
 
@@ -436,6 +439,9 @@ public final class PromiseEdgesTest {
         for (int other = 0; other < 4; other++) {
             dueSame(other == 2, "14: one is ahead", x, 2, other);
         }
+        Steps.applyEmpty(x, 0, 1);
+        Steps.applyEmpty(x, 1, 2);
+        dueSame(false, "14: INDEX alone", x, 0, 1);
     }
 
     private static void dueSame(boolean want, String what, VersionFold x, int a, int b) {
@@ -508,6 +514,19 @@ public final class PromiseEdgesTest {
                 Steps.applyEmpty(x, 1, 1);
             }
         }
+    }
+
+    private static void promise14SinceBelowHorizon() {
+        VersionFold x = new VersionFold(2);
+        Steps.commit(x, 0, 14, 1, 5, 0);
+        x.draft(14, 1, 0);
+        x.apply(1);
+        for (int fold = 0; fold < 2; fold++) {
+            Steps.applyEmpty(x, fold, 1);
+            x.take(fold, fold + 2);
+        }
+        Check.due(2, "14: HORIZON", () -> x.look(2, 1));
+        dueSame(false, "14: since can be asked below HORIZON", x, 2, 3);
     }
 
     private static void promise15EveryWhich() {

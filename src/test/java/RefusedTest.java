@@ -256,6 +256,8 @@ public final class RefusedTest {
         Picture.dueUnchanged(1, "6: at first", made, x -> x.test(0));
         Picture.dueUnchanged(false, "7: at first", made, x -> x.take(0, 1));
         Picture.dueUnchanged(Check.NO_FOLD, "5: at first", made, x -> x.apply(4));
+        Picture.dueUnchanged(Check.NO_FOLD, "7: at first", made, x -> x.take(0, 4));
+        Picture.dueUnchanged(Check.NO_FOLD, "7: at first", made, x -> x.take(4, 0));
         Picture.dueUnchanged(Check.BAD_ARGUMENT, "9: at first", made, x -> x.value(0, 0, 1));
         Picture.dueUnchanged(Check.BAD_ARGUMENT, "9: at first", made, x -> x.value(0, 0, -1));
         Picture.dueUnchanged(-1, "12: at first", made, x -> x.written(0, 0));

@@ -241,6 +241,11 @@ public final class TermsEdgesTest {
         Check.due(0xFFFF, "T: all KEYS since", () -> x.since(0, 0));
         Check.due(136, "T: all VALUES", () -> x.look(0, 5));
         x.draft(1, 1, 0);
+        for (int key = 0; key < 16; key++) {
+            x.writes(key, 0);
+        }
+        Check.due(1, "T: KEYS that are written only, all written since", () -> x.test(0));
+        x.draft(1, 1, 0);
         Check.due(1, "T: no KEYS, all written since", () -> x.apply(0));
         Check.due(0, "T: an empty WRITE SET writes none", () -> x.since(0, 1));
         Check.due(136, "T: an empty WRITE SET", () -> x.look(0, 5));
