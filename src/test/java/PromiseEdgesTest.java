@@ -1,3 +1,5 @@
+import java.util.stream.IntStream;
+
 /** The edges that the promises name, by their numbers, each on both of its sides. */
 public final class PromiseEdgesTest {
     private static final int MAX = Steps.MAX;
@@ -36,6 +38,7 @@ public final class PromiseEdgesTest {
         promise14SinceBelowHorizon();
         promise15EveryWhich();
         promise15TheSumWraps();
+        promise15TheSumIsOfTheValuesNow();
         allOf512Calls();
         Check.end();
     }
@@ -569,6 +572,21 @@ public final class PromiseEdgesTest {
             Steps.commit(x, 0, 0, 1, 0, row[0]);
             Steps.commit(x, 0, 0, 2, 15, row[1]);
             Check.due(row[2], "15: " + row[0] + " and " + row[1], () -> x.look(0, 5));
+        }
+    }
+
+    /** VALUES as they were, of which more are kept at each INDEX, are not in the sum. */
+    private static void promise15TheSumIsOfTheValuesNow() {
+        for (int v = 1; v <= 16; v++) {
+            VersionFold x = new VersionFold(v);
+            int[] now = new int[16];
+            for (int i = 1; i <= 60; i++) {
+                int key = i % 16;
+                now[key] = i * i;
+                Steps.commit(x, 0, 0, i, key, now[key]);
+                int sum = IntStream.of(now).sum();
+                Check.due(sum, "15: V " + v + ", sum at INDEX " + i, () -> x.look(0, 5));
+            }
         }
     }
 

@@ -25,6 +25,7 @@ public final class PromisesTest {
         promise14Same();
         promise14SameForgetsOldWrites();
         promise15Look();
+        theExampleInTheReadme();
         Check.end();
     }
 
@@ -494,5 +495,24 @@ public final class PromisesTest {
         Check.due(0, "15: another fold", () -> x.look(1, 0));
         Check.due(0x20, "15: the DRAFT by any fold", () -> x.look(1, 6));
         Check.due(0x41, "15: the DRAFT by any fold", () -> x.look(3, 7));
+    }
+
+    private static void theExampleInTheReadme() {
+        VersionFold x = new VersionFold(4);
+        Check.due(true, "README: draft", () -> x.draft(0, 1, 0));
+        Check.due(true, "README: reads", () -> x.reads(1));
+        Check.due(true, "README: writes", () -> x.writes(0, 5));
+        Check.due(1, "README: test", () -> x.test(0));
+        Check.due(1, "README: apply", () -> x.apply(0));
+        Check.due(0, "README: apply again", () -> x.apply(0));
+        Check.due(0, "README: value as it was", () -> x.value(0, 0, 0));
+        Check.due(5, "README: value as it is", () -> x.value(0, 0, 2));
+        Check.due(1, "README: since", () -> x.since(0, 0));
+        x.draft(1, 1, 0);
+        x.reads(0);
+        Check.due(2, "README: a stale read", () -> x.apply(0));
+        Check.due(true, "README: take", () -> x.take(0, 1));
+        Check.due(true, "README: same", () -> x.same(0, 1));
+        Check.due(Check.BAD_ARGUMENT, "README: value below HORIZON", () -> x.value(1, 0, 2));
     }
 }
